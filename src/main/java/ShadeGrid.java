@@ -236,7 +236,7 @@ public final class ShadeGrid {
                 : !alike(of, guide) ? NOT_SO : FINE)) {
             return NONE;
         }
-        lattice.spread(pictures[of], pictures[guide], s, r);
+        lattice.spread(pictures[of], pictures[guide], s, r, 0);
         nodes.spread(pictures[guide], s, r);
         return nodes.count();
     }
@@ -305,15 +305,15 @@ public final class ShadeGrid {
     }
 
     private static long commonDivisor(long one, long other) {
-        long larger = one;
-        long lesser = other;
-        // each two turns halve the number at least, so 63 bits are through long before this
-        for (int turn = 0; turn < 200 && lesser > 0; turn++) {
-            long rest = larger % lesser;
-            larger = lesser;
-            lesser = rest;
+        long divisor = one;
+        long rest = other;
+        // two turns halve the number at least, so its 63 bits are through long before the bound
+        for (int times = 0; times < 200 && rest > 0; times++) {
+            long next = divisor % rest;
+            divisor = rest;
+            rest = next;
         }
-        return larger;
+        return divisor;
     }
 
     // ---- smoothing
@@ -497,8 +497,7 @@ public final class ShadeGrid {
     }
 
     private void smoothToWork(Picture of, Picture guide, int s, int r, int n) {
-        smoother.spread(of, guide, s, r);
-        smoother.blurEachWay(n);
+        smoother.spread(of, guide, s, r, n);
         work.resize(of.wide, of.high);
         for (int y = 0; y < work.high; y++) {
             for (int x = 0; x < work.wide; x++) {
@@ -814,12 +813,14 @@ public final class ShadeGrid {
 
         /** The STEP to the dot at the right; NONE without one. */
         int stepRight(int x, int y) {
-            return contains(x + 1, y) ? Math.abs(shadeAt(x, y) - shadeAt(x + 1, y)) : NONE;
+            return contains(x, y) && contains(x + 1, y)
+                    ? Math.abs(shadeAt(x, y) - shadeAt(x + 1, y)) : NONE;
         }
 
         /** The STEP to the dot below; NONE without one. */
         int stepDown(int x, int y) {
-            return contains(x, y + 1) ? Math.abs(shadeAt(x, y) - shadeAt(x, y + 1)) : NONE;
+            return contains(x, y) && contains(x, y + 1)
+                    ? Math.abs(shadeAt(x, y) - shadeAt(x, y + 1)) : NONE;
         }
 
         int least() {
@@ -888,6 +889,7 @@ public final class ShadeGrid {
         private int at;
         private int token;
         private int tokenStart;
+        private int wordLength;
 
         void append(int number) {
             for (int shift = 24; shift >= 0; shift -= 8) {
@@ -911,8 +913,9 @@ public final class ShadeGrid {
             while (at < textLength && isLetter(content[at])) {
                 at++;
             }
-            if (at > tokenStart) {
-                token = at - tokenStart <= WORD_LETTERS ? WORD : WRONG;
+            wordLength = at - tokenStart;
+            if (wordLength > 0) {
+                token = wordLength <= WORD_LETTERS ? WORD : WRONG;
             } else if (at >= textLength) {
                 token = END;
             } else {
@@ -921,17 +924,13 @@ public final class ShadeGrid {
             }
         }
 
-        int wordLength() {
-            return token == WORD ? at - tokenStart : 0;
-        }
-
         /** Letter k of the WORD that is the TOKEN now: 0 a. */
         int wordLetter(int k) {
-            return k >= 0 && k < wordLength() ? content[tokenStart + k] - 'a' : NONE;
+            return k >= 0 && k < wordLength ? content[tokenStart + k] - 'a' : NONE;
         }
 
         boolean isPic() {
-            return wordLength() == 3
+            return token == WORD && wordLength == 3
                     && wordLetter(0) == 'p' - 'a' && wordLetter(1) == 'i' - 'a' && wordLetter(2) == 'c' - 'a';
         }
 
@@ -958,7 +957,7 @@ public final class ShadeGrid {
 
         void add(Tape tape) {
             if (many < TOLD_PICTURES) {
-                lengths[many] = Math.min(WORD_LETTERS, tape.wordLength());
+                lengths[many] = Math.min(WORD_LETTERS, tape.wordLength);
                 for (int k = 0; k < lengths[many]; k++) {
                     letters[many * WORD_LETTERS + k] = tape.wordLetter(k);
                 }
@@ -984,12 +983,12 @@ public final class ShadeGrid {
         }
 
         private boolean isName(int p, Tape tape) {
-            int length = tape.wordLength();
+            int length = tape.wordLength;
             if (hasLetter(p, length) || !hasLetter(p, length - 1)) {
                 return false;
             }
             for (int k = 0; k < length; k++) {
-                if (letterOf(p, k) != tape.wordLetter(k)) {
+                if (letters[p * WORD_LETTERS + k] != tape.wordLetter(k)) {
                     return false;
                 }
             }
@@ -1069,14 +1068,14 @@ public final class ShadeGrid {
                 return FORM;
             }
             if (want == WANT_FIRST_ROW) {
-                pictures[p].resize(tape.wordLength(), 0);
+                pictures[p].resize(tape.wordLength, 0);
             }
             want = WANT_MARK;
             return addRow(pictures[p], tape);
         }
 
         private static int addRow(Picture picture, Tape tape) {
-            if (tape.wordLength() != picture.wide || !isRow(tape)) {
+            if (tape.wordLength != picture.wide || !isRow(tape)) {
                 return ROW;
             }
             if (picture.high >= MOST_HIGH) {
@@ -1090,7 +1089,7 @@ public final class ShadeGrid {
         }
 
         private static boolean isRow(Tape tape) {
-            for (int k = 0; k < tape.wordLength(); k++) {
+            for (int k = 0; k < tape.wordLength; k++) {
                 if (tape.wordLetter(k) >= LETTER_SHADES) {
                     return false;
                 }
@@ -1143,16 +1142,12 @@ public final class ShadeGrid {
             step = 0;
         }
 
-        void spread(Picture of, Picture by, int s, int r) {
+        /** Spread from the dots, then n times BLURRED along each way. */
+        void spread(Picture of, Picture by, int s, int r, int n) {
             picture.become(of);
             guide.become(by);
             step = s;
             range = r;
-            blurEachWay(0);
-        }
-
-        /** As if n times BLURRED along each way since it was spread. */
-        void blurEachWay(int n) {
             Arrays.fill(blurs, n);
             bindPlaces();
         }
@@ -1208,15 +1203,17 @@ public final class ShadeGrid {
             if (!picture.contains(x, y)) {
                 return;
             }
+            int d = 0;
             for (int v = 0; v < picture.high; v++) {
                 long down = bondsDown[y * MOST_HIGH + v];
-                for (int u = 0; u < picture.wide && down > 0; u++) {
+                for (int u = 0; u < picture.wide; u++) {
                     long near = down * bondsAcross[x * MOST_WIDE + u];
                     if (near > 0) {
-                        near *= bond(shade, guide.shadeAt(u, v), range, blurs[SHADE_WAY]);
+                        near *= bond(shade, guide.shades[d], range, blurs[SHADE_WAY]);
                         weight += near;
-                        sum += near * picture.shadeAt(u, v);
+                        sum += near * picture.shades[d];
                     }
+                    d++;
                 }
             }
         }
@@ -1234,15 +1231,23 @@ public final class ShadeGrid {
             }
         }
 
-        /** Along one way: what comes to a READ at one place from a dot at another place. */
+        /**
+         * Along one way: what comes to a READ at one place from a dot at another place, over the
+         * two NODES of each of them.
+         */
         private static int bond(int reader, int giver, int size, int times) {
             if (size <= 0) {
                 return 0;
             }
-            int low = reader / size;
+            int far = reader / size - giver / size;
+            if (far > times + 1 || far < -times - 1) {
+                return 0;
+            }
             int rest = reader % size;
-            int high = rest > 0 ? rest * gift(giver, low + 1, size, times) : 0;
-            return (size - rest) * gift(giver, low, size, times) + high;
+            int other = giver % size;
+            return ((size - rest) * (size - other) + rest * other) * echo(times, far)
+                    + rest * (size - other) * echo(times, far + 1)
+                    + (size - rest) * other * echo(times, far - 1);
         }
 
         /** Along one way: what comes to a NODE from a dot at a place. */
@@ -1256,7 +1261,7 @@ public final class ShadeGrid {
         }
 
         private static int echo(int times, int far) {
-            return isBlurs(times) && within(far, -times, times)
+            return times >= 0 && times <= MOST_BLURS && far >= -times && far <= times
                     ? ECHOES[times * ECHO_WIDTH + MOST_BLURS + far] : 0;
         }
     }
