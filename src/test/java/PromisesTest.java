@@ -80,6 +80,12 @@ public final class PromisesTest {
         return g;
     }
 
+    /** Pictures 4 and 5 are as high, as wide as picture 0, but not both. */
+    private static void addUnlike(ShadeGrid g) {
+        g.fill(4, g.about(0, 0) + 1, g.about(0, 1), 0);
+        g.fill(5, g.about(0, 0), g.about(0, 1) + 1, 0);
+    }
+
     private static void faulty(String text, int fault, int place) {
         ShadeGrid g = told("pic old p");
         g.fill(1, 2, 2, 5);
@@ -240,6 +246,9 @@ public final class PromisesTest {
             is("about " + what, g.about(0, what), due[what]);
         }
         is("trouble", g.trouble(), 0);
+        ShadeGrid falling = painted(2, 9, 8, 7, 5);
+        is("the least last", falling.about(0, 2), 5);
+        is("the greatest first", falling.about(0, 3), 9);
         refused(g, "what 6", g.about(0, 6), 1);
         refused(g, "what -1", g.about(0, -1), 1);
         refused(g, "picture 1", g.about(1, 0), 1);
@@ -364,6 +373,10 @@ public final class PromisesTest {
         paint(g, 1, 1, 250, 50);
         is("held", g.noise(1, 1, 127), 2);
         dots(g, 1, 1, 255, 0);
+        paint(g, 1, 1, 100);
+        // seed 0: 74 mod 255, less 127
+        is("seed 0", g.noise(1, 0, 127), 1);
+        dots(g, 1, 1, 47);
         refused(g, "seed 65537", g.noise(0, 65537, 1), 2);
         refused(g, "seed -1", g.noise(0, -1, 1), 2);
         refused(g, "by 128", g.noise(0, 0, 128), 2);
@@ -401,6 +414,16 @@ public final class PromisesTest {
         is("large", g.grid(3, 3, 8, 64), 3 * 3 * 2);
         is("no act", g.undo(), 0);
         is("it stays", g.gridded(5), 18);
+        addUnlike(g);
+        refused(g, "wider", g.grid(0, 4, 1, 8), 5);
+        refused(g, "higher", g.grid(0, 5, 1, 8), 5);
+        // one above the other, s 2, r 8: 0 at j 0; 17 (k 2 and 3) at j 0 and 1
+        is("upright", g.grid(1, 1, 2, 8), 5);
+        is("upright, s 1", g.grid(1, 1, 1, 8), 3);
+        g.fill(3, 1, 12, 0);
+        is("12 high, s 3", g.grid(3, 3, 3, 8), 5);
+        g.fill(3, 1, 1, 16);
+        is("on a node of the shade", g.grid(3, 3, 1, 8), 1);
     }
 
     private static void gridded() {
@@ -452,10 +475,36 @@ public final class PromisesTest {
         g.blur(1);
         is("j -1", g.node(0, -1, 0, 0), 346);
         is("j 0", g.node(0, 0, 0, 0), 692);
+        is("upright", g.grid(1, 1, 2, 16), 5);
+        is("upright", g.node(0, 1, 1, 0), 30);
+        is("upright", g.node(1, 0, 1, 0), 0);
+        nodesOfOneDot();
         refused(g, "what 2", g.node(0, 0, 0, 2), 1);
         refused(g, "what -1", g.node(0, 0, 0, -1), 1);
         ShadeGrid none = new ShadeGrid();
         refused(none, "no grid", none.node(0, 0, 0, 0), 1);
+    }
+
+    /** One dot of shade 3 at a node of its own, r 8, PARTS 5 and 3. */
+    private static void nodesOfOneDot() {
+        long[][] comeOf = {{0, 0, 0, 1, 0, 0, 0}, {0, 0, 1, 2, 1, 0, 0}, {0, 1, 4, 6, 4, 1, 0}, {1, 6, 15, 20, 15, 6, 1}};
+        for (int way = 0; way < 3; way++) {
+            ShadeGrid g = painted(1, 3);
+            g.grid(0, 0, 1, 8);
+            for (int times = 0; times < 4; times++) {
+                for (int far = -5; far <= 5; far++) {
+                    long here = far < -3 || far > 3 ? 0 : comeOf[times][far + 3];
+                    long before = far < -2 || far > 4 ? 0 : comeOf[times][far + 2];
+                    long due = way < 2 ? 5 * here : 5 * here + 3 * before;
+                    int i = way == 0 ? far : 0;
+                    int j = way == 1 ? far : 0;
+                    int k = way == 2 ? far : 0;
+                    is("WEIGHT", g.node(i, j, k, 0), due);
+                    is("SUM", g.node(i, j, k, 1), 3 * due);
+                }
+                g.blur(way);
+            }
+        }
     }
 
     private static void nth() {
@@ -473,6 +522,29 @@ public final class PromisesTest {
         is("by i, then j, then k", g.nth(3, 1), 0);
         is("by i, then j, then k", g.nth(2, 2), 2);
         is("below 0", g.nth(0, 1), -1);
+        g.fill(3, 16, 12, 255);
+        g.grid(3, 3, 1, 8);
+        for (int n = 0; n < 9; n++) {
+            g.blur(n % 3);
+        }
+        // i -3 .. 18, j -3 .. 14, k 28 .. 35
+        is("all that can be", g.gridded(5), 22 * 18 * 8);
+        int[] first = {-3, -3, 28};
+        int[] last = {18, 14, 35};
+        for (int what = 0; what < 3; what++) {
+            is("the first", g.nth(0, what), first[what]);
+            is("the last", g.nth(22 * 18 * 8 - 1, what), last[what]);
+            is("none", g.nth(22 * 18 * 8, what), -1000);
+        }
+        g.fill(3, 1, 1, 0);
+        g.grid(3, 3, 8, 128);
+        g.blur(2);
+        g.blur(2);
+        g.blur(2);
+        is("the lowest", g.nth(0, 2), -3);
+        is("seven", g.gridded(5), 7);
+        is("the highest", g.nth(6, 2), 3);
+        g = smallGrid();
         refused(g, "m -1", g.nth(-1, 0), 1);
         refused(g, "what 3", g.nth(0, 3), 1);
         refused(g, "what -1", g.nth(0, -1), 1);
@@ -540,7 +612,21 @@ public final class PromisesTest {
         ShadeGrid none = painted(1, 1);
         refused(none, "no grid", none.read(0, 0, 0, 0), 1);
         none.grid(0, 0, 8, 128);
-        is("of the largest sums", none.read(0, 0, 1, 0), 1);
+        is("of one dot", none.read(0, 0, 1, 0), 1);
+        none.fill(0, 16, 12, 255);
+        none.grid(0, 0, 8, 128);
+        for (int n = 0; n < 9; n++) {
+            none.blur(n % 3);
+        }
+        is("of the largest sums", none.read(7, 7, 200, 0), 255);
+        is("of the largest sums", none.read(7, 7, 200, 1), 1);
+        // 1 by 2: a divisor of no more than 1 between 1 and 2 is left
+        paint(none, 0, 2, 0, 1);
+        none.fill(1, 2, 1, 0);
+        none.grid(0, 1, 1, 8);
+        none.blur(0);
+        is("2 by 3", none.read(1, 0, 0, 0), 2);
+        is("2 by 3", none.read(1, 0, 0, 1), 3);
     }
 
     private static void readShade() {
@@ -597,6 +683,22 @@ public final class PromisesTest {
         g.fill(4, 2, 1, 9);
         is("by a guide", g.smooth(5, 0, 4, 1, 128, 1), 2);
         dots(g, 5, 2, 6, 11);
+        addUnlike(g);
+        refused(g, "wider", g.smooth(0, 0, 4, 1, 8, 0), 5);
+        refused(g, "higher", g.smooth(0, 0, 5, 1, 8, 0), 5);
+        for (int upright = 0; upright < 2; upright++) {
+            paint(g, 2, upright == 1 ? 1 : 4, 0, 0, 0, 255);
+            g.turn(4, 2, 0);
+            g.above(4, 4, 4);
+            int wide = upright == 1 ? 1 : 4;
+            g.smooth(5, 2, 4, 1, 128, 1);
+            dots(g, 5, wide, 0, 0, 64, 170);
+            g.smooth(5, 2, 4, 1, 128, 2);
+            dots(g, 5, wide, 0, 17, 68, 139);
+            g.smooth(5, 2, 4, 1, 128, 3);
+            dots(g, 5, wide, 6, 27, 68, 121);
+        }
+        paint(g, 4, 2, 9, 9);
         is("a grid is left alone", g.grid(0, 0, 3, 9) > 0, true);
         g.smooth(5, 0, 4, 1, 128, 1);
         is("a grid is left alone", g.gridded(0), 3);
@@ -621,6 +723,13 @@ public final class PromisesTest {
         is("5 to the side", wide.dot(1, 5, 0), 0);
         is("an act", wide.undo() >= 0, true);
         refused(wide, "gone", wide.dot(1, 0, 0), 1);
+        paint(wide, 2, 1, 0, 0, 0, 160, 0, 0);
+        wide.box(2, 2, 1);
+        dots(wide, 2, 1, 0, 0, 53, 53, 53, 0);
+        wide.fill(3, 3, 3, 7);
+        wide.fill(4, 1, 1, 7);
+        is("smaller than what was there", wide.box(3, 4, 1), 0);
+        dots(wide, 3, 1, 7);
     }
 
     private static void median() {
@@ -632,6 +741,9 @@ public final class PromisesTest {
         paint(g, 2, 3, 5, 200, 6);
         is("an odd number", g.median(2, 2, 2), 2);
         dots(g, 2, 3, 6, 6, 6);
+        paint(g, 2, 1, 5, 200, 6, 100);
+        g.median(3, 2, 1);
+        dots(g, 3, 1, 5, 6, 100, 6);
         refused(g, "n 5", g.median(1, 0, 5), 2);
         refused(g, "n -1", g.median(1, 0, -1), 2);
         refused(g, "to", g.median(-1, 0, 9), 1);
@@ -654,6 +766,11 @@ public final class PromisesTest {
         refused(g, "-1", g.mix(2, 0, 1, -1), 2);
         refused(g, "number first", g.mix(2, 0, 3, 101), 2);
         refused(g, "not as wide", g.mix(2, 0, 3, 0), 5);
+        addUnlike(g);
+        refused(g, "wider", g.mix(2, 0, 4, 0), 5);
+        refused(g, "higher", g.mix(2, 5, 0, 0), 5);
+        g.undo();
+        g.undo();
         refused(g, "to", g.mix(6, 0, 3, 0), 1);
         refused(g, "one", g.mix(0, 5, 3, 101), 1);
         refused(g, "other", g.mix(0, 0, 5, 101), 1);
@@ -668,6 +785,11 @@ public final class PromisesTest {
         dots(g, 0, 5, 128, 128, 128, 128, 128);
         g.fill(3, 1, 2, 0);
         refused(g, "not as wide", g.above(0, 0, 3), 5);
+        addUnlike(g);
+        refused(g, "wider", g.above(2, 0, 4), 5);
+        refused(g, "higher", g.above(2, 5, 0), 5);
+        g.undo();
+        g.undo();
         refused(g, "to", g.above(6, 0, 3), 1);
         refused(g, "of", g.above(0, 5, 0), 1);
         refused(g, "other", g.above(0, 0, 5), 1);
@@ -679,6 +801,9 @@ public final class PromisesTest {
         dots(g, 1, 6, 0, 0, 127, 127, 255, 255);
         is("2", g.levels(1, 0, 2), 4);
         dots(g, 1, 6, 0, 0, 0, 255, 255, 255);
+        paint(g, 2, 2, 200, 10);
+        is("the first, too", g.levels(2, 2, 2), 2);
+        dots(g, 2, 2, 255, 0);
         is("64", g.levels(0, 0, 64), 2);
         dots(g, 0, 6, 0, 85, 85, 170, 170, 255);
         refused(g, "1", g.levels(1, 0, 1), 2);
@@ -692,6 +817,12 @@ public final class PromisesTest {
         is("stretch", g.stretch(1, 0), 4);
         dots(g, 1, 4, 0, 85, 170, 255);
         is("as it is", g.stretch(1, 1), 0);
+        paint(g, 2, 1, 20, 10);
+        paint(g, 3, 2, 0, 1);
+        is("another one", g.stretch(4, 2), 2);
+        dots(g, 4, 1, 255, 0);
+        is("a step of 1", g.stretch(3, 3), 1);
+        dots(g, 3, 2, 0, 255);
         paint(g, 0, 3, 0, 1, 7);
         is("downwards", g.stretch(0, 0), 2);
         dots(g, 0, 3, 0, 36, 255);
@@ -760,8 +891,16 @@ public final class PromisesTest {
             is("smooth by hand", g.smooth(2, n == 0 ? 1 : 2, n == 0 ? 1 : 2, 6, 104, 0) > 0, n < 19);
         }
         is("-2", g.rests(1, 6, 96, 0), -2);
+        g.fill(1, 8, 1, 0);
+        for (int x = 0; x < 8; x++) {
+            g.set(1, x, 0, x * 8);
+        }
+        is("once more than can be told", g.rests(1, 1, 64, 3), -2);
+        for (int n = 0; n < 21; n++) {
+            is("smooth by hand", g.smooth(2, n == 0 ? 1 : 2, n == 0 ? 1 : 2, 1, 64, 3) > 0, n < 20);
+        }
         is("trouble", g.trouble(), 0);
-        is("nothing is changed", g.dot(1, 15, 0), 255);
+        is("nothing is changed", g.dot(1, 7, 0), 56);
         is("the grid, too", g.gridded(0), NONE);
         refused(g, "s", g.rests(0, 0, 8, 0), 2);
         refused(g, "s", g.rests(0, 9, 8, 0), 2);
@@ -799,6 +938,14 @@ public final class PromisesTest {
         g.fill(4, 3, 1, 0);
         is("new ones do not count", g.kept(3, 4, 1, 128, 1, 20), 1);
         is("all", g.kept(3, 4, 1, 128, 1, 0), 2);
+        paint(g, 3, 1, 0, 100, 100);
+        g.fill(4, 1, 3, 0);
+        is("upright", g.kept(3, 4, 1, 128, 1, 20), 1);
+        addUnlike(g);
+        refused(g, "wider", g.kept(0, 4, 1, 8, 0, 0), 5);
+        refused(g, "higher", g.kept(5, 0, 1, 8, 0, 0), 5);
+        g.undo();
+        g.undo();
         refused(g, "s", g.kept(0, 0, 0, 8, 0, 0), 2);
         refused(g, "r", g.kept(0, 0, 1, 7, 0, 0), 2);
         refused(g, "n", g.kept(0, 0, 1, 8, 4, 0), 2);
@@ -818,6 +965,14 @@ public final class PromisesTest {
         is("no neighbours", g.flat(1, 1, 8, 1), 0);
         paint(g, 2, 2, 0, 3);
         is("by one", g.flat(2, 1, 128, 3), 1);
+        // s 1, r 16, 0 and 16: by n 0 .. 3 they are 16, 10, 6, 4 apart (1 to 4, 16 to 36, 225 to 400)
+        paint(g, 3, 2, 0, 16);
+        is("t 17", g.flat(3, 1, 16, 17), 0);
+        is("t 16", g.flat(3, 1, 16, 16), 1);
+        is("t 10", g.flat(3, 1, 16, 10), 2);
+        is("t 6", g.flat(3, 1, 16, 6), 3);
+        is("t 5", g.flat(3, 1, 16, 5), 3);
+        is("t 4", g.flat(3, 1, 16, 4), -2);
         is("nothing is changed", g.dot(2, 1, 0), 3);
         refused(g, "t 0", g.flat(0, 1, 8, 0), 2);
         refused(g, "t 256", g.flat(0, 1, 8, 256), 2);
@@ -833,6 +988,13 @@ public final class PromisesTest {
         is("1", g.apart(0, 1, 1), 37);
         is("2", g.apart(0, 1, 2), 27);
         is("like", g.apart(1, 1, 2), 0);
+        g.set(1, 0, 0, 2);
+        is("by 1", g.apart(0, 1, 0), 3);
+        addUnlike(g);
+        refused(g, "wider", g.apart(0, 4, 1), 5);
+        refused(g, "higher", g.apart(5, 0, 1), 5);
+        g.undo();
+        g.undo();
         g.fill(2, 1, 3, 0);
         refused(g, "what first", g.apart(0, 2, 3), 1);
         refused(g, "what", g.apart(0, 1, -1), 1);
@@ -857,6 +1019,21 @@ public final class PromisesTest {
         is("large", g.regions(1, 0), 1);
         paint(g, 2, 3, 1, 9, 1, 9, 1, 9);
         is("corners do not touch", g.regions(2, 7), 6);
+        paint(g, 3, 5,
+                9, 9, 9, 9, 1,
+                1, 1, 1, 9, 1,
+                9, 9, 9, 9, 1,
+                9, 1, 1, 1, 1,
+                9, 9, 9, 9, 9);
+        is("round corners", g.regions(3, 0), 3);
+        is("round corners", g.region(3, 0, 0, 2), 4 + 1 + 4 + 1 + 5);
+        is("round corners", g.region(3, 0, 1, 2), 7);
+        paint(g, 3, 3, 1, 9, 1, 1, 1, 9);
+        is("down, left and up", g.regions(3, 0), 4);
+        paint(g, 3, 3, 2, 1, 2, 1, 1, 2);
+        is("to the left", g.regionAt(3, 0, 0, 1), 1);
+        paint(g, 3, 3, 1, 9, 2, 1, 9, 1, 1, 1, 1);
+        is("up on the right", g.regionAt(3, 0, 2, 1), 0);
         refused(g, "256", g.regions(0, 256), 2);
         refused(g, "-1", g.regions(0, -1), 2);
         refused(g, "picture first", g.regions(5, -1), 1);
@@ -921,12 +1098,16 @@ public final class PromisesTest {
         is("row", g.line(0, 0, 1), 150);
         is("column", g.line(0, 1, 0), 41);
         is("column", g.line(0, 1, 2), 63);
+        paint(g, 1, 1, 3, 4);
+        is("a narrow row", g.line(1, 0, 1), 4);
+        paint(g, 1, 2, 3, 4);
+        is("a low column", g.line(1, 1, 1), 4);
         refused(g, "row 2", g.line(0, 0, 2), 1);
         refused(g, "row -1", g.line(0, 0, -1), 1);
         refused(g, "column 3", g.line(0, 1, 3), 1);
         refused(g, "kind 2", g.line(0, 2, 0), 1);
         refused(g, "kind -1", g.line(0, -1, 0), 1);
-        refused(g, "picture", g.line(1, 0, 0), 1);
+        refused(g, "picture", g.line(2, 0, 0), 1);
     }
 
     private static void pairs() {
