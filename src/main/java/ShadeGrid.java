@@ -794,7 +794,7 @@ public final class ShadeGrid {
         }
 
         boolean contains(int x, int y) {
-            return within(x, 0, wide - 1) && within(y, 0, high - 1);
+            return x >= 0 && x < wide && y >= 0 && y < high;
         }
 
         int indexOf(int x, int y) {

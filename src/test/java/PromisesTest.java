@@ -620,13 +620,24 @@ public final class PromisesTest {
         }
         is("of the largest sums", none.read(7, 7, 200, 0), 255);
         is("of the largest sums", none.read(7, 7, 200, 1), 1);
-        // 1 by 2: a divisor of no more than 1 between 1 and 2 is left
         paint(none, 0, 2, 0, 1);
         none.fill(1, 2, 1, 0);
         none.grid(0, 1, 1, 8);
         none.blur(0);
         is("2 by 3", none.read(1, 0, 0, 0), 2);
         is("2 by 3", none.read(1, 0, 0, 1), 3);
+        none.turn(0, 0, 3);
+        none.turn(1, 1, 3);
+        none.grid(0, 1, 1, 8);
+        none.blur(1);
+        is("2 by 3", none.read(0, 1, 0, 0), 2);
+        is("2 by 3", none.read(0, 1, 0, 1), 3);
+        // r 9, by 1: what comes of a 1 is 8 * 8 + 1 * 1, of a 2 it is 8 * 7 + 1 * 2, once and twice
+        paint(none, 0, 2, 1, 2);
+        none.grid(0, 0, 1, 9);
+        none.blur(0);
+        is("no divisor in common", none.read(1, 0, 1, 0), 65 + 2 * 2 * 58);
+        is("no divisor in common", none.read(1, 0, 1, 1), 65 + 2 * 58);
     }
 
     private static void readShade() {
@@ -1202,6 +1213,41 @@ public final class PromisesTest {
         dots(g, 0, 2, 0, 17, 34, 51, 68, 85);
     }
 
+    /** Every call that makes a picture, with one that has all dots there can be. */
+    private static void allDots() {
+        ShadeGrid g = new ShadeGrid();
+        g.fill(0, 16, 12, 100);
+        is("set", g.set(0, 15, 11, 101), 100);
+        is("noise", g.noise(0, 7, 0), 0);
+        is("turn", g.turn(1, 0, 4), true);
+        is("turn", g.dot(1, 15, 11), 154);
+        is("part", g.part(1, 0, 0, 0, 16, 12), true);
+        is("smooth", g.smooth(2, 1, 0, 1, 8, 0), 0);
+        is("box", g.box(2, 0, 4), 1);
+        is("median", g.median(2, 0, 4), 1);
+        is("mix", g.mix(2, 0, 1, 30), true);
+        is("mix", g.dot(2, 15, 11), 101);
+        is("above", g.above(2, 0, 1), 0);
+        is("levels", g.levels(2, 0, 2), 192);
+        is("stretch", g.stretch(2, 0), 192);
+        is("stretch", g.about(2, 4), 255);
+        is("apart", g.apart(0, 2, 1), 191 * 100 + 154);
+        is("regions", g.regions(0, 0), 2);
+        is("edges", g.edges(0, 1), 2);
+        is("steep", g.steep(0, 0), 2);
+        is("ranked", g.ranked(0, 191), 101);
+        is("line", g.line(0, 1, 15), 1201);
+        is("pair", g.pair(0, 2), 354);
+        is("kept", g.kept(0, 0, 1, 8, 0, 1), 2);
+        is("rests", g.rests(0, 1, 8, 0), 0);
+        is("flat", g.flat(0, 1, 8, 2), 0);
+        is("grid", g.grid(0, 0, 1, 8), 192 * 2);
+        is("readShade", g.readShade(15, 11), 101);
+        is("smaller", g.smaller(0, 0, 4), true);
+        is("larger", g.larger(0, 0, 4), true);
+        is("write", g.write(0), 203);
+    }
+
     private static void write() {
         ShadeGrid g = painted(3, 0, 8, 9, 25, 26, 255);
         is("write", g.write(0), 7);
@@ -1323,6 +1369,8 @@ public final class PromisesTest {
         }
         promise = 44;
         actsOf();
+        promise = 0;
+        allDots();
         System.out.println(wrong == 0 ? "all promises hold" : wrong + " answers are not as due");
         if (wrong != 0) {
             System.exit(1);
