@@ -1,22 +1,5 @@
-import java.util.NoSuchElementException;
-
 /** One method for each promise of the document: ordinary inputs, the edges it names, wrong inputs. */
-public final class PromisesTest {
-    private static final int NONE = ShadeGrid.NONE;
-    private static int wrong = 0;
-    private static int promise = 0;
-
-    private static void is(String call, long got, long want) {
-        if (got != want) {
-            wrong++;
-            System.out.println("promise " + promise + ": " + call + " answered " + got + ", due is " + want);
-        }
-    }
-
-    private static void is(String call, boolean got, boolean want) {
-        is(call, got ? 1 : 0, want ? 1 : 0);
-    }
-
+public final class PromisesTest extends Checks {
     /** A call that is refused must say so by its answer and by trouble(). */
     private static void refused(ShadeGrid g, String call, long got, int number) {
         is(call, got, NONE);
@@ -26,58 +9,6 @@ public final class PromisesTest {
     private static void refused(ShadeGrid g, String call, boolean got, int number) {
         is(call, got, false);
         is(call + " trouble()", g.trouble(), number);
-    }
-
-    private static int feedAll(ShadeGrid g, String text) {
-        String padded = text + " ".repeat((20 - text.length() % 20) % 20);
-        int[] n = new int[5];
-        int answer = 0;
-        for (int at = 0; at < padded.length(); at += 20) {
-            for (int a = 0; a < 5; a++) {
-                n[a] = 0;
-                for (int b = 0; b < 4; b++) {
-                    n[a] = n[a] << 8 | padded.charAt(at + 4 * a + b);
-                }
-            }
-            answer = g.feed(n[0], n[1], n[2], n[3], n[4]);
-        }
-        return answer;
-    }
-
-    private static int tell(ShadeGrid g, String text) {
-        feedAll(g, text);
-        return g.text(text.length());
-    }
-
-    private static ShadeGrid told(String text) {
-        ShadeGrid g = new ShadeGrid();
-        if (tell(g, text) < 1) {
-            wrong++;
-            System.out.println("promise " + promise + ": the text " + text + " was refused");
-        }
-        return g;
-    }
-
-    /** The dots of a picture must be these, row by row, and it so wide. */
-    private static void dots(ShadeGrid g, int p, int wide, int... due) {
-        is("about(" + p + ", 0)", g.about(p, 0), wide);
-        is("about(" + p + ", 1)", g.about(p, 1), due.length / wide);
-        for (int d = 0; d < due.length; d++) {
-            is("dot(" + p + ", " + d % wide + ", " + d / wide + ")", g.dot(p, d % wide, d / wide), due[d]);
-        }
-    }
-
-    private static void paint(ShadeGrid g, int p, int wide, int... shades) {
-        g.fill(p, wide, shades.length / wide, 0);
-        for (int d = 0; d < shades.length; d++) {
-            g.set(p, d % wide, d / wide, shades[d]);
-        }
-    }
-
-    private static ShadeGrid painted(int wide, int... shades) {
-        ShadeGrid g = new ShadeGrid();
-        paint(g, 0, wide, shades);
-        return g;
     }
 
     /** Pictures 4 and 5 are as high, as wide as picture 0, but not both. */
@@ -1281,35 +1212,25 @@ public final class PromisesTest {
         is("trouble stays", g.trouble(), 1);
     }
 
-    private static void noLetter(ShadeGrid g, int p, int k) {
-        boolean thrown = false;
-        try {
-            g.letter(p, k);
-        } catch (NoSuchElementException e) {
-            thrown = true;
-        }
-        is("letter(" + p + ", " + k + ") throws", thrown, true);
-    }
-
     private static void letter() {
-        noLetter(new ShadeGrid(), 0, 0);
+        is("no such letter", noLetter(new ShadeGrid(), 0, 0), true);
         ShadeGrid g = told("pic az a;pic abcdefghijklmnop a");
         is("0, 0", g.letter(0, 0), 0);
         is("0, 1", g.letter(0, 1), 25);
         is("1, 15", g.letter(1, 15), 15);
-        noLetter(g, 0, 2);
-        noLetter(g, 0, -1);
-        noLetter(g, 1, 16);
-        noLetter(g, 2, 0);
-        noLetter(g, -1, 0);
-        noLetter(g, Integer.MAX_VALUE, Integer.MAX_VALUE);
+        is("no such letter", noLetter(g, 0, 2), true);
+        is("no such letter", noLetter(g, 0, -1), true);
+        is("no such letter", noLetter(g, 1, 16), true);
+        is("no such letter", noLetter(g, 2, 0), true);
+        is("no such letter", noLetter(g, -1, 0), true);
+        is("no such letter", noLetter(g, Integer.MAX_VALUE, Integer.MAX_VALUE), true);
         g.fill(2, 1, 1, 0);
         g.dot(9, 9, 9);
-        noLetter(g, 2, 0);
+        is("no such letter", noLetter(g, 2, 0), true);
         is("trouble stays", g.trouble(), 1);
         tell(g, "pic b a");
         is("of the new text", g.letter(0, 0), 1);
-        noLetter(g, 1, 0);
+        is("no such letter", noLetter(g, 1, 0), true);
     }
 
     private static void bytes() {
@@ -1342,7 +1263,7 @@ public final class PromisesTest {
         g.fault();
         g.where();
         g.octet(0);
-        noLetter(g, 0, 0);
+        is("no such letter", noLetter(g, 0, 0), true);
         g.feed(0, 0, 0, 0, 0);
         is("those that are never refused leave it", g.trouble(), 5);
         g.undo();
@@ -1363,17 +1284,14 @@ public final class PromisesTest {
             PromisesTest::undo, PromisesTest::write, PromisesTest::octet, PromisesTest::letter, PromisesTest::bytes,
             PromisesTest::trouble,
         };
-        for (Runnable one : all) {
-            promise++;
-            one.run();
+        for (int n = 0; n < all.length; n++) {
+            at("promise " + (n + 1));
+            all[n].run();
         }
-        promise = 44;
+        at("promise 44");
         actsOf();
-        promise = 0;
+        at("a picture of all dots");
         allDots();
-        System.out.println(wrong == 0 ? "all promises hold" : wrong + " answers are not as due");
-        if (wrong != 0) {
-            System.exit(1);
-        }
+        end("all promises hold");
     }
 }
