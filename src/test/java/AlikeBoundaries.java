@@ -152,6 +152,12 @@ final class AlikeBoundaries extends Boundaries {
             g = chess();
             is("the last x", g.region(0, 0, 191, 0), 15);
             is("the last y", g.region(0, 0, 191, 1), 11);
+            g = painted(1, 1, 2, 3);
+            is("one column, x", g.region(0, 0, 1, 0), 0);
+            is("one column, y", g.region(0, 0, 1, 1), 1);
+            g = painted(3, 1, 2, 3);
+            is("one row, x", g.region(0, 0, 2, 0), 2);
+            is("one row, y", g.region(0, 0, 2, 1), 0);
         });
         says("2 how many dots", () -> {
             is("one", full().region(3, 0, 0, 2), 1);
@@ -270,6 +276,9 @@ final class AlikeBoundaries extends Boundaries {
             is("one, both ways round", painted(3, 0, 255, 0).pairs(0), 1);
             is("the most", PictureBoundaries.unlikeDots().pairs(0), 356);
             is("one, as often as can be", chess().pairs(0), 1);
+            ShadeGrid g = full();
+            is("asked again", g.pairs(0), g.pairs(0));
+            is("none behind some", g.pairs(3), 0);
             is("of like shades, too", painted(3, 0, 0, 255).pairs(0), 2);
             is("one above the other, too", painted(1, 1, 2, 3).pairs(0), 2);
         });

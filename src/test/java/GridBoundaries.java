@@ -165,6 +165,12 @@ final class GridBoundaries extends Boundaries {
             is("beyond all shades", blurred(oneDot(0, 0, 255, 1, 8), 2).node(0, 0, 33, 1), 7);
         });
         says("(Up to 3 times along each way.)", () -> {
+            int[] twice = {0, 0, 1, 4, 6, 4, 1, 0, 0};
+            for (int far = -4; far <= 4; far++) {
+                is("twice, i " + far, blurred(gridOf(1, 8, 1, 1, 0), 0, 0).node(far, 0, 0, 0), 8 * twice[far + 4]);
+                is("twice, j " + far, blurred(gridOf(1, 8, 1, 1, 0), 1, 1).node(0, far, 0, 0), 8 * twice[far + 4]);
+                is("twice, k " + far, blurred(gridOf(1, 8, 1, 1, 0), 2, 2).node(0, 0, far, 0), 8 * twice[far + 4]);
+            }
             int[] due = {1, 6, 15, 20, 15, 6, 1};
             ShadeGrid g = blurred(gridOf(1, 8, 1, 1, 0), 0, 0, 0, 1, 1, 1, 2, 2, 2);
             for (int far = -4; far <= 4; far++) {
@@ -190,6 +196,9 @@ final class GridBoundaries extends Boundaries {
             is("below", g.read(0, 0, 2, 1), (6 * 8 + 2 * 7) / 2);
             is("above", g.read(1, 0, 2, 0), 100 * 2 * (7 * 7 + 1) / 4);
             is("below", g.read(1, 0, 2, 1), (6 * 7 * 8 + 2 * (7 * 7 + 1)) / 4);
+            for (int way = 0; way < 3; way++) {
+                readsBlurredAlong(way);
+            }
         });
         says("SHADE READ: the nearest whole number, of two as near the lower.", () -> {
             int[][] due = {{0, 1, 0, 0}, {0, 2, 0, 1}, {0, 3, 0, 1}, {1, 2, 0, 1}, {1, 2, 1, 1}, {1, 2, 2, 2},
@@ -202,6 +211,23 @@ final class GridBoundaries extends Boundaries {
                 is(d[0] + " and twice " + d[1] + " and " + d[2] + " by 4", g.readShade(1, 0), d[3]);
             }
         });
+    }
+
+    /** 0 and 9 side by side, or one above the other, by one shade: only a blur along their way brings them together. */
+    private static void readsBlurredAlong(int way) {
+        for (int upright = 0; upright < 2; upright++) {
+            ShadeGrid g = painted(upright == 1 ? 1 : 2, 0, 9);
+            g.turn(1, 0, 0);
+            g.set(1, 1 - upright, upright, 0);
+            g.grid(0, 1, 1, 8);
+            g.blur(way);
+            int[] due = way == upright ? new int[] {3, 6, 5} : new int[] {0, 9, 9};
+            is("blurred along " + way, g.readShade(0, 0), due[0]);
+            is("blurred along " + way, g.readShade(1 - upright, upright), due[1]);
+            g.blur(way);
+            // 4 to 6 now: 5.4
+            is("twice along " + way, g.readShade(1 - upright, upright), due[2]);
+        }
     }
 
     private static void grid() {
@@ -318,6 +344,11 @@ final class GridBoundaries extends Boundaries {
             is("the last i", g.nth(last, 0), 18);
             is("the last j", g.nth(last, 1), 14);
             is("the last k", g.nth(last, 2), 35);
+            g = blurred(gridOf(1, 8, 1, 1, 0), 2, 2, 2, 1, 1, 1, 0, 0, 0);
+            is("the first i there can be", g.nth(0, 0), -3);
+            is("the first j there can be", g.nth(0, 1), -3);
+            is("the first k there can be", g.nth(0, 2), -3);
+            is("the last of them", g.nth(342, 2), 3);
         });
         says("-1,000 there are not so many.", () -> {
             for (int what = 0; what < 3; what++) {
@@ -347,6 +378,14 @@ final class GridBoundaries extends Boundaries {
         says("All WEIGHTS (what 0), all SUMS (1) together.", () -> {
             is("the least", gridOf(1, 8, 1, 1, 0).total(0), 8);
             is("the least", gridOf(1, 8, 1, 1, 0).total(1), 0);
+            for (int way = 0; way < 3; way++) {
+                ShadeGrid one = gridOf(1, 8, 1, 1, 3);
+                for (int times = 0; times <= 3; times++) {
+                    is("along " + way, one.total(0), 8 << 2 * times);
+                    is("along " + way, one.total(1), 24 << 2 * times);
+                    one.blur(way);
+                }
+            }
             ShadeGrid g = blurred(gridOf(8, 128, 16, 12, 255), 0, 0, 0, 1, 1, 1, 2, 2, 2);
             is("the most", g.total(0), 192L * 8 * 8 * 128 << 18);
             is("the most", g.total(1), 255 * (192L * 8 * 8 * 128 << 18));
@@ -372,6 +411,12 @@ final class GridBoundaries extends Boundaries {
                 22 * 18 * 4, 22 * 18 * 6, 22 * 18 * 8};
             for (int n = 0; n < 9; n++) {
                 is("of as many dots as can be", g.blur(ways[n]), due[n]);
+            }
+            g = gridOf(1, 8, 16, 12, 255);
+            int[] upwards = {16 * 12 * 4, 16 * 12 * 6, 16 * 12 * 8, 16 * 14 * 8, 16 * 16 * 8, 16 * 18 * 8,
+                18 * 18 * 8, 20 * 18 * 8, 22 * 18 * 8};
+            for (int n = 0; n < 9; n++) {
+                is("the other way round", g.blur(ways[8 - n]), upwards[n]);
             }
         });
         says("NONE: 1 (way, too); 3 (three times already).", () -> {
@@ -424,6 +469,12 @@ final class GridBoundaries extends Boundaries {
             is("2 by 3", g.read(0, 0, 0, 0), 2);
             is("2 by 3", g.read(0, 0, 0, 1), 3);
             is("4 by 3", g.read(1, 0, 0, 0), 4);
+            // r 9, by 1: what comes of a 1 is 8 * 8 + 1 * 1, of a 2 it is 8 * 7 + 1 * 2, once and twice
+            g = painted(2, 1, 2);
+            g.grid(0, 0, 1, 9);
+            g.blur(0);
+            is("no divisor in common", g.read(1, 0, 1, 0), 65 + 2 * 2 * 58);
+            is("no divisor in common", g.read(1, 0, 1, 1), 65 + 2 * 58);
         });
         says("NONE: 1 (no GRID, dot, what); 2", () -> {
             bounds(0, 1, 1, GridBoundaries::everyShade, (g, what) -> g.read(0, 0, 0, what));
@@ -442,6 +493,10 @@ final class GridBoundaries extends Boundaries {
             refuses(5, () -> blurred(gridOf(1, 8, 1, 1, 0), 2), g -> g.read(0, 0, 16, 1));
             is("the least shade with one", gridOf(1, 8, 1, 1, 16).read(0, 0, 9, 1), 1);
             refuses(5, () -> gridOf(1, 8, 1, 1, 16), g -> g.read(0, 0, 8, 0));
+            // 15 has 1 of 8 at k 1, and so has 1: there is a WEIGHT of 1
+            is("the least there can be", gridOf(1, 8, 1, 1, 15).read(0, 0, 1, 0), 15);
+            is("the least there can be", gridOf(1, 8, 1, 1, 15).read(0, 0, 1, 1), 1);
+            refuses(5, () -> gridOf(1, 8, 1, 1, 15), g -> g.read(0, 0, 0, 0));
             Supplier<ShadeGrid> apart = () -> {
                 ShadeGrid g = painted(2, 0, 255);
                 g.grid(0, 0, 1, 8);

@@ -268,7 +268,10 @@ final class PictureBoundaries extends Boundaries {
             dots(noisy(2, 45438, 0, 100, 100), 0, 2, 100, 100);
             ShadeGrid g = full();
             g.noise(0, 0, 0);
+            dots(g, 0, 3, 0, 17, 34, 51, 68, 85);
             is("an act, though nothing is changed", g.undo(), 4);
+            g.noise(3, 45438, 1);
+            dots(g, 3, 1, 8);
         });
         says("held within 0 .. 255", () -> {
             // seed 45438 becomes 0: 127 less; 52432 becomes 254: 127 more

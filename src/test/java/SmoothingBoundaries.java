@@ -543,6 +543,11 @@ final class SmoothingBoundaries extends Boundaries {
             for (int[] d : due) {
                 is("t " + d[0], g.kept(0, 1, 1, 8, 1, d[0]), d[1]);
             }
+            paint(g, 0, 1, 0, 100, 100);
+            g.fill(1, 1, 3, 0);
+            for (int[] d : due) {
+                is("upright, t " + d[0], g.kept(0, 1, 1, 8, 1, d[0]), d[1]);
+            }
             is("t 255", painted(2, 0, 255).kept(0, 0, 1, 8, 3, 255), 1);
             is("one dot", full().kept(3, 3, 1, 8, 0, 0), 0);
             is("all", full().kept(2, 2, 8, 128, 3, 0), 356);
