@@ -1549,7 +1549,7 @@ public final class ShadeGrid {
         private void sink(int from, int gap) {
             int code = codes[from];
             int at = from;
-            while (at >= gap && codes[at - gap] > code) {
+            while (gap > 0 && at >= gap && codes[at - gap] > code) {
                 codes[at] = codes[at - gap];
                 at -= gap;
             }

@@ -272,6 +272,9 @@ final class PictureBoundaries extends Boundaries {
             is("an act, though nothing is changed", g.undo(), 4);
             g.noise(3, 45438, 1);
             dots(g, 3, 1, 8);
+            // 65,536 becomes 65,536 again: mod 5 it is 1, less 2
+            is("as many dots as can be", g.noise(2, 65536, 2), 192);
+            is("as many dots as can be", g.about(2, 4), 191 * 6 + 199);
         });
         says("held within 0 .. 255", () -> {
             // seed 45438 becomes 0: 127 less; 52432 becomes 254: 127 more

@@ -92,6 +92,12 @@ final class TextBoundaries extends Boundaries {
             feedAll(g, "pic a b/c;pic d e!!!");
             is("a word cut off", g.text(12), NONE);
             is("a word cut off", g.where(), 10);
+            feedAll(g, " ".repeat(20));
+            is("none of them", g.text(0), NONE);
+            is("none of them", g.where(), 0);
+            feedAll(g, " ".repeat(20));
+            is("one of them", g.text(1), NONE);
+            is("one of them", g.where(), 1);
         });
         says("(it is empty then)", () -> {
             ShadeGrid g = new ShadeGrid();
