@@ -329,31 +329,11 @@ public final class ShadeGrid {
     }
 
     public int box(int to, int of, int n) {
-        if (refused(!isPlace(to) || !told(of) ? NO_SUCH : !within(n, 0, 4) ? BAD_NUMBER : FINE)) {
-            return NONE;
-        }
-        Picture source = pictures[of];
-        work.resize(source.wide, source.high);
-        for (int y = 0; y < source.high; y++) {
-            for (int x = 0; x < source.wide; x++) {
-                work.putShade(x, y, talliedAround(source, x, y, n).mean());
-            }
-        }
-        return actCountingOthers(to, of);
+        return actAround(to, of, n, false);
     }
 
     public int median(int to, int of, int n) {
-        if (refused(!isPlace(to) || !told(of) ? NO_SUCH : !within(n, 0, 4) ? BAD_NUMBER : FINE)) {
-            return NONE;
-        }
-        Picture source = pictures[of];
-        work.resize(source.wide, source.high);
-        for (int y = 0; y < source.high; y++) {
-            for (int x = 0; x < source.wide; x++) {
-                work.putShade(x, y, talliedAround(source, x, y, n).middle());
-            }
-        }
-        return actCountingOthers(to, of);
+        return actAround(to, of, n, true);
     }
 
     public boolean mix(int to, int one, int other, int part) {
@@ -504,6 +484,22 @@ public final class ShadeGrid {
                 work.putShade(x, y, smoother.shadeRead(x, y));
             }
         }
+    }
+
+    /** MEDIAN takes the same dots around each one as BOX, but the middle one instead of the mean. */
+    private int actAround(int to, int of, int n, boolean middle) {
+        if (refused(!isPlace(to) || !told(of) ? NO_SUCH : !within(n, 0, 4) ? BAD_NUMBER : FINE)) {
+            return NONE;
+        }
+        Picture source = pictures[of];
+        work.resize(source.wide, source.high);
+        for (int y = 0; y < source.high; y++) {
+            for (int x = 0; x < source.wide; x++) {
+                Tally around = talliedAround(source, x, y, n);
+                work.putShade(x, y, middle ? around.middle() : around.mean());
+            }
+        }
+        return actCountingOthers(to, of);
     }
 
     private static int edgesOfBoth(Picture one, Picture other, int t) {
