@@ -616,7 +616,10 @@ public final class ShadeGrid {
             return NONE;
         }
         int latest = history.takeLatest();
-        pictures[history.places[latest]].become(history.before[latest]);
+        int place = history.places[latest];
+        if (isPlace(place)) {
+            pictures[place].become(history.before[latest]);
+        }
         return history.many;
     }
 

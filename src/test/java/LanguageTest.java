@@ -8,21 +8,20 @@ import java.util.Arrays;
 import java.util.IdentityHashMap;
 import java.util.List;
 import java.util.Map;
+import java.util.Set;
 import java.util.TreeSet;
 import java.util.stream.Collectors;
 
 /** The face of the document, and those rules of LANGUAGE.md that a program can look at. */
 public final class LanguageTest {
-    private static final String FACE = """
-        feed 5 int, text 1 int, fault 0 int, where 0 int, about 2 int, dot 3 int, often 2 int, set 4 int,
-        fill 4 boolean, turn 3 boolean, part 6 boolean, noise 3 int, grid 4 int, gridded 1 int, node 4 long,
-        nth 2 int, total 1 long, blur 1 int, read 4 long, readShade 2 int, smooth 6 int, box 3 int, median 3 int,
-        mix 4 boolean, above 3 int, levels 3 int, stretch 2 int, larger 3 boolean, smaller 3 boolean, rests 4 int,
-        edges 2 int, kept 6 int, flat 4 int, apart 3 int, regions 2 int, region 4 int, regionAt 4 int, steep 2 int,
-        ranked 2 int, line 3 int, pairs 1 int, pair 2 int, undo 0 int, write 1 int, octet 1 int, letter 2 int,
-        bytes 0 int, trouble 0 int
-        """;
+    private static final String SOURCE = "src/main/java/ShadeGrid.java";
     private static final int MOST_ELEMENTS = 10_000;
+    private static final int MOST_DEEP = 8;
+    private static final int MOST_LINES = 60;
+    /** What the class uses of what rule 4 allows: one more of that may be added here. */
+    private static final Set<String> LIBRARY = Set.of("java/lang/Object.<init>", "java/lang/Math.abs",
+            "java/lang/Math.min", "java/lang/Math.max", "java/lang/Long.bitCount", "java/lang/System.arraycopy",
+            "java/util/Arrays.fill", "java/util/NoSuchElementException.<init>");
     private static int wrong = 0;
 
     private static void must(boolean holds, String what) {
@@ -32,19 +31,34 @@ public final class LanguageTest {
         }
     }
 
-    private static void faceIsThatOfTheDocument() {
-        TreeSet<String> due = new TreeSet<>(List.of(FACE.trim().split(",\\s+")));
-        TreeSet<String> got = new TreeSet<>();
+    /** The public lines of a Java text, as they stand there, without what ends each of them. */
+    private static List<String> publicLines(String java) {
+        return java.lines().filter(line -> line.matches("( {4})?public .*"))
+                .map(line -> line.replaceAll("(;| \\{)$", "")).toList();
+    }
+
+    private static void faceIsThatOfTheDocument() throws Exception {
+        String document = Files.readString(Path.of("..", "shared", "DOC.md"));
+        int from = document.indexOf("```java");
+        List<String> due = publicLines(document.substring(from, document.indexOf("```", from + 3)));
+        List<String> got = publicLines(Files.readString(Path.of(SOURCE)));
+        must(due.size() == 51, "the document has a class, a constant, a constructor and 48 methods: " + due);
+        for (String line : due) {
+            must(got.contains(line), "the class has " + line);
+        }
+        for (String line : got) {
+            must(due.contains(line), "the document has " + line);
+        }
+    }
+
+    private static void membersAreAsRuled() {
         for (Method m : ShadeGrid.class.getDeclaredMethods()) {
             if (Modifier.isPublic(m.getModifiers())) {
-                got.add(m.getName() + " " + m.getParameterCount() + " " + m.getReturnType());
                 must(!Modifier.isStatic(m.getModifiers()), m.getName() + " is of an object");
-                must(Arrays.stream(m.getParameterTypes()).allMatch(t -> t == int.class), m.getName() + " takes int alone");
             } else {
                 must(Modifier.isPrivate(m.getModifiers()) || m.isSynthetic(), m.getName() + " is private");
             }
         }
-        must(due.equals(got), "the methods are " + due + " but " + got);
         must(Modifier.isFinal(ShadeGrid.class.getModifiers()) && Modifier.isPublic(ShadeGrid.class.getModifiers()),
                 "the class is public and final");
         Constructor<?>[] made = ShadeGrid.class.getDeclaredConstructors();
@@ -91,7 +105,7 @@ public final class LanguageTest {
     }
 
     private static void sourceIsAsRuled() throws Exception {
-        String source = Files.readString(Path.of("src/main/java/ShadeGrid.java"))
+        String source = Files.readString(Path.of(SOURCE))
                 .replaceAll("(?s)/\\*.*?\\*/", "").replaceAll("//[^\n]*", "");
         for (String word : List.of("try", "catch", "finally", "synchronized", "assert", "package", "native", "volatile")) {
             must(!source.matches("(?s).*\\b" + word + "\\b.*"), "no " + word);
@@ -106,6 +120,35 @@ public final class LanguageTest {
                 must(line.matches("\\s+(pictures|before)\\[[pa]\\] = new Picture\\(\\);"), line);
             }
             must(line.chars().allMatch(ch -> ch >= 32 && ch < 127), line);
+        }
+    }
+
+    private static void methodsAreShort() throws Exception {
+        String head = "";
+        int lines = 0;
+        for (String line : Files.readAllLines(Path.of(SOURCE))) {
+            boolean opens = line.matches("( {4}| {8})[a-zA-Z].*\\) (throws \\w+ )?\\{")
+                    && !line.matches(" +(if|for|while|switch) .*");
+            boolean ends = line.matches("( {4}| {8})\\}");
+            head = opens ? line.trim() : head;
+            lines = opens ? 0 : lines + 1;
+            must(!ends || lines <= MOST_LINES, head + " is longer than " + MOST_LINES + " lines");
+            lines = ends ? 0 : lines;
+        }
+    }
+
+    private static void callsAreAsRuled() {
+        List<String> names = classes().stream().map(Class::getName).toList();
+        CallGraph calls = CallGraph.of(names);
+        if (calls == null) {
+            System.out.println("there is no javap here: the depth of calls and the library are not looked at");
+            return;
+        }
+        must(calls.methods().contains("ShadeGrid.trouble") && calls.outside().equals(LIBRARY),
+                "javap tells the methods and what they use: " + calls.outside());
+        for (String method : calls.methods()) {
+            List<String> deepest = calls.deepestFrom(method, MOST_DEEP + 1);
+            must(deepest.size() <= MOST_DEEP, "calls within " + MOST_DEEP + " levels, without recursion: " + deepest);
         }
     }
 
@@ -142,9 +185,12 @@ public final class LanguageTest {
 
     public static void main(String[] args) throws Exception {
         faceIsThatOfTheDocument();
+        membersAreAsRuled();
         fieldsAreAsRuled();
         classesAreAsRuled();
         sourceIsAsRuled();
+        methodsAreShort();
+        callsAreAsRuled();
         anObjectIsSmall();
         System.out.println(wrong == 0 ? "the face and the rules are kept" : wrong + " rules are not kept");
         if (wrong != 0) {
